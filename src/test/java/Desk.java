@@ -15,7 +15,7 @@ final class Desk {
     private final UrlDesk desk = new UrlDesk();
     private int calls = 0;
 
-    /** A desk that has read a text into slot 0; see {@link #was}. */
+    /** A desk that has read a text into slot 0. */
     static Desk of(String text) {
         Desk made = new Desk();
         made.read(text, 0);
