@@ -198,7 +198,7 @@ public final class UrlDesk {
                 parts.use(part, draft, 0, draft.count);
                 return !parts.isEmpty(HOST);
             case PORT:
-                return !parts.isEmpty(HOST) && parts.usePortBefore(draft);
+                return !parts.isEmpty(HOST) && parts.usePortAtBeginning(draft);
             case QUERY:
                 reader.useTail(QUERY, draft, '?');
                 return true;
@@ -340,7 +340,9 @@ public final class UrlDesk {
         void become(Text other) {
             count = Math.min(other.count, chars.length);
             overfull = other.count > chars.length;
-            System.arraycopy(other.chars, 0, chars, 0, count);
+            for (int i = 0; i < count; i++) {
+                chars[i] = other.chars[i];
+            }
         }
 
         void becomeWithoutBreaks(Text other, int from, int to) {
@@ -492,8 +494,8 @@ public final class UrlDesk {
             portNumber = number == Kinds.usualPort(kind) ? NONE : number;
         }
 
-        /** The port is that of the digits at a text's beginning; false when there is none such. */
-        boolean usePortBefore(Text text) {
+        /** False when the text has something, but not a port at its beginning. */
+        boolean usePortAtBeginning(Text text) {
             if (text.count == 0) {
                 portNumber = NONE;
                 return true;

@@ -9,6 +9,7 @@ public final class HostTest {
         notEightPieces();
         writtenPieces();
         freeTexts();
+        oneHostAfterAnother();
         Check.end();
     }
 
@@ -113,6 +114,8 @@ public final class HostTest {
         special(".1", null);
         special("1.2.3.4.5", null);
         special("1.2.3.4.5.", null);
+        special("1.2.3.4.0", null);
+        special("0.0.0.0.0", null);
         special("256.1", null);
         special("1.256.1", null);
         special("1.2.256.1", null);
@@ -156,7 +159,8 @@ public final class HostTest {
             "1::2::3", "::1::", "1:::2", "12345::", "::12345", "g::", "::g", "1 ::", "::%31", "::1%", "::-1", "::1/",
             "1.2.3.4", "1:2:3:4:5:1.2.3.4", "1:2:3:4:5:6:7:1.2.3.4", "1:2:3:4:5:6::1.2.3.4", "1.2.3.4::", "::1.2.3.4:5",
             "::1.2.3.4::", "::1.2.3", "::1.2.3.", "::1.2.3.4.", "::1.2.3.4.5", "::.1.2.3", "::1..2.3", "::1.2.3.256",
-            "::256.2.3.4", "::01.2.3.4", "::1.2.3.00", "::1.2.3.04", "::1.2.3.a", "::1a.2.3.4", "::1.2.3.1000", "::1.2.0x3.4"
+            "::256.2.3.4", "::01.2.3.4", "::1.2.3.00", "::1.2.3.04", "::1.2.3.a", "::1a.2.3.4", "::1.2.3.1000", "::1.2.0x3.4",
+            ":12", ":12:3", ":12:3:4:5:6:7:8", "::1.2x3.4", "::1.2:3.4", "::1.2.3:4", "1:2x3:4:5:6:7:8", "1::2x"
         };
         for (String pieces : wrong) {
             bracketed(pieces, null);
@@ -186,6 +190,21 @@ public final class HostTest {
         bracketed("1:1:1:1:1:1:0:0", "1:1:1:1:1:1::");
         bracketed("0:0:1:1:1:1:1:1", "::1:1:1:1:1:1");
         bracketed("10:100:1000:0010:0100:f:ff:fff", "10:100:1000:10:100:f:ff:fff");
+    }
+
+    private static void oneHostAfterAnother() {
+        Desk desk = Desk.of("http://[1:2:3:4:5:6:7:8]");
+        desk.read("http://[9::a]", 0);
+        Check.due("pieces after pieces", desk.part(0, Desk.HOST), "[9::a]");
+        desk.read("http://[1:2:3:4:5:6:7]", 1);
+        Check.due("too few pieces after pieces", desk.part(1, Desk.HOST), null);
+        desk.read("http://1.2", 1);
+        Check.due("numbers after pieces", desk.part(1, Desk.HOST), "1.0.0.2");
+        desk.read("q://free", 2);
+        Check.due("free text after numbers", desk.part(2, Desk.HOST), "free");
+        desk.read("ws://a.b", 2);
+        Check.due("a domain after free text", desk.part(2, Desk.HOST), "a.b");
+        Check.due("the first one", desk.part(0, Desk.HOST), "[9::a]");
     }
 
     private static void freeTexts() {

@@ -84,6 +84,8 @@ public final class ReadTest {
         alone("q:a!", "q:a!");
         alone("q:!a", "q:!a");
         alone(" \t ", null);
+        with("q://h/a", "!b!", "q://h/!b!");
+        with("q://h/a", " \u0001 b \u0001 ", "q://h/b");
         alone("", null);
         alone("q:\u0001a", "q:%01a");
         alone("q:a\u007f", "q:a%7F");
@@ -122,6 +124,11 @@ public final class ReadTest {
         alone("file:h", "file:h");
         alone("httpx:h", "httpx:h");
         alone("htt:h", "htt:h");
+        alone("xttp:h", "xttp:h");
+        alone("xttps:h", "xttps:h");
+        alone("xtp:h", "xtp:h");
+        alone("xs:h", "xs:h");
+        alone("xss:h", "xss:h");
         alone("wsss:h", "wsss:h");
     }
 
@@ -266,6 +273,8 @@ public final class ReadTest {
         alone("http://h:00008", "http://h:8/");
         alone("http://h:" + "0".repeat(80) + "65535", "http://h:65535/");
         alone("http://h:65536", null);
+        alone("http://h:655350", null);
+        alone("http://h:800", "http://h:800/");
         alone("http://h:99999999999999999999", null);
         alone("http://h:4294967304", null);
         alone("http://h:8x", null);

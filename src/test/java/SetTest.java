@@ -9,6 +9,7 @@ public final class SetTest {
         fragments();
         wrongSlotsAndParts();
         otherPartsStay();
+        otherSlotsDoNotMatter();
         Check.end();
     }
 
@@ -121,6 +122,28 @@ public final class SetTest {
             Check.due("length of slot " + slot, desk.call().length(slot, 0), UrlDesk.BAD);
         }
         Check.due("text", desk.text(0), "http://h/");
+    }
+
+    private static void otherSlotsDoNotMatter() {
+        Desk desk = Desk.of("http://h:8/a");
+        desk.read("q:a", 1);
+        desk.set("'", 0, Desk.QUERY);
+        Check.due("after an opaque one was read", desk.text(0), "http://h:8/a?%27");
+        Check.due("its port", desk.call().port(0), 8);
+        Check.due("its segments", desk.call().segments(0), 1);
+        desk.set("'", 1, Desk.QUERY);
+        Check.due("after a special one was set", desk.text(1), "q:a?'");
+        Check.due("no port", desk.call().port(1), UrlDesk.NONE);
+        Check.due("no segments", desk.call().segments(1), UrlDesk.NONE);
+        desk.read("q://h:80", 2);
+        desk.set("80", 0, Desk.PORT);
+        Check.due("the usual port", desk.text(0), "http://h/a?%27");
+        desk.set("443", 2, Desk.PORT);
+        Check.due("not a usual port", desk.text(2), "q://h:443");
+        desk.set("u", 2, Desk.USERNAME);
+        Check.due("with its port", desk.text(2), "q://u@h:443");
+        desk.set("v", 0, Desk.USERNAME);
+        Check.due("without a port", desk.text(0), "http://v@h/a?%27");
     }
 
     private static void otherPartsStay() {

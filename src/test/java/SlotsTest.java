@@ -8,6 +8,7 @@ public final class SlotsTest {
         wrongCopies();
         lengths();
         nones();
+        nothingIsLeftOver();
         characters();
         ports();
         segments();
@@ -102,6 +103,21 @@ public final class SlotsTest {
         Check.due("length of its password", desk.call().length(0, Desk.PASSWORD), 1);
     }
 
+    private static void nothingIsLeftOver() {
+        Desk desk = new Desk();
+        int[] want = {2, 1, 0, 0, UrlDesk.NONE, UrlDesk.NONE, 0, UrlDesk.NONE, UrlDesk.NONE};
+        for (int slot = 0; slot < 4; slot++) {
+            desk.read("http://u:p@h:8/a?b#c", slot);
+        }
+        for (int n = 0; n < 2; n++) {
+            desk.read("ws://us:pw@ho:88/a/b?c#d", 0);
+            desk.read("q:", 0);
+            for (int part = 0; part < 9; part++) {
+                Check.due("length of part " + part + " after a longer URL", desk.call().length(0, part), want[part]);
+            }
+        }
+    }
+
     private static void characters() {
         Desk desk = Desk.of("http://u:p@h:65/a?b#c");
         Check.due("first of the text", desk.call().charAt(0, Desk.TEXT, 0), (int) 'h');
@@ -127,6 +143,9 @@ public final class SlotsTest {
         Check.due("a port", Desk.of("http://h:8").call().port(0), 8);
         Check.due("port 0", Desk.of("http://h:0").call().port(0), 0);
         Check.due("the highest", Desk.of("q://h:65535").call().port(0), 65535);
+        Check.due("ten thousand", Desk.of("q://h:10000").part(0, Desk.PORT), "10000");
+        Check.due("twelve hundred", Desk.of("q://h:1200").part(0, Desk.PORT), "1200");
+        Check.due("nine", Desk.of("q://h:9").part(0, Desk.PORT), "9");
         Check.due("the usual one", Desk.of("http://h:80").call().port(0), UrlDesk.NONE);
         Check.due("no port", Desk.of("q:a").call().port(0), UrlDesk.NONE);
         Check.due("the base's", Desk.of("q://h:7/", "a").call().port(1), 7);
@@ -166,6 +185,10 @@ public final class SlotsTest {
             Check.due("with slot " + slot, desk.call().same(0, slot, false), false);
             Check.due("of slot " + slot, desk.call().same(slot, 0, false), false);
         }
+        desk.read("httq://h/b", 2);
+        Check.due("another scheme", desk.call().same(0, 2, false), false);
+        desk.read("ittp://h/b", 2);
+        Check.due("another first character", desk.call().same(0, 2, true), false);
         desk.read("http://h/b/", 2);
         Check.due("a longer one", desk.call().same(0, 2, false), false);
         Check.due("a shorter one", desk.call().same(2, 0, true), false);
