@@ -4,16 +4,34 @@ import java.util.Objects;
 final class Check {
     private static int made = 0;
     private static int wrong = 0;
+    private static String heading = "";
 
     private Check() {
+    }
+
+    /** What the answers from here on are about. */
+    static void under(String what) {
+        heading = what + ": ";
+    }
+
+    /** What the answers of a few checks are about, beside what all are about here. */
+    static void under(String what, Runnable checks) {
+        String before = heading;
+        heading = before + Edge.told(what) + ": ";
+        checks.run();
+        heading = before;
     }
 
     static void due(String what, Object got, Object want) {
         made++;
         if (!Objects.equals(got, want)) {
             wrong++;
-            System.out.println(what + " answered " + got + ", due is " + want);
+            System.out.println(heading + what + " answered " + got + ", due is " + want);
         }
+    }
+
+    static int made() {
+        return made;
     }
 
     static boolean allWell() {
