@@ -15,6 +15,7 @@ public final class CallEdgesTest {
         Edge.test("false when it fails, slot is not 0 .. 3, base is not -1 .. 3, or slot base has none",
                 CallEdgesTest::refusedReads);
         Edge.test("(The draft stays; slot and base may be the same.)", CallEdgesTest::draftStays);
+        Edge.test("Puts the draft in the place of a part of the URL of a slot", CallEdgesTest::otherPartsStay);
         Edge.test("part 2 or 3, encoded by USERINFO", CallEdgesTest::credentials);
         Edge.test("part 5: the port that the digits at the beginning of the draft make, whatever is behind them",
                 CallEdgesTest::portAtTheBeginning);
@@ -162,6 +163,25 @@ public final class CallEdgesTest {
         Check.due("the draft behind set", run.draftText(), "1");
         Run fails = Run.busy().draft(" ../\tx ").refuses(Call.read(0, -1));
         Check.due("the draft of a reading that fails", fails.draftText(), "%20..%2F%09x%20");
+    }
+
+    /** Nothing but the part changes, whatever was read or set before in other slots. */
+    private static void otherPartsStay() {
+        Run run = Run.busy().draft("'").takes(Call.set(0, 7)).takes(Call.set(2, 7)).takes(Call.set(1, 7));
+        Check.due("a special one", run.text(0), "http://u:p@h:8/a/b?%27#e");
+        Check.due("a list that is not special", run.text(1), "q://k?'");
+        Check.due("an opaque one", run.text(2), "q:o?'");
+        run.answers(Call.segments(0), 2).answers(Call.segments(1), 0).answers(Call.segments(2), UrlDesk.NONE);
+        run.answers(Call.port(0), 8).answers(Call.port(1), UrlDesk.NONE).answers(Call.port(2), UrlDesk.NONE);
+        run.draft("80").takes(Call.set(1, 5)).takes(Call.set(0, 5));
+        run.answers(Call.port(0), UrlDesk.NONE).answers(Call.port(1), 80);
+        run.draft("x").takes(Call.set(2, 8)).takes(Call.set(0, 2)).takes(Call.set(1, 3));
+        Check.due("the special one again", run.text(0), "http://x:p@h/a/b?%27#e");
+        Check.due("the list again", run.text(1), "q://:x@k:80?'");
+        Check.due("the opaque one again", run.text(2), "q:o?'#x");
+        run.answers(Call.segments(2), UrlDesk.NONE).answers(Call.segments(0), 2);
+        run.draft("http:y").takes(Call.read(EMPTY, 0));
+        Check.due("one that was set as base", run.text(EMPTY), "http://x:p@h/a/y");
     }
 
     private static void credentials() {
@@ -312,6 +332,10 @@ public final class CallEdgesTest {
                 run.answers(Call.port(to), port).answers(Call.segments(to), segments);
             }
         }
+        Run kinds = Run.busy().takes(Call.copy(0, 3)).takes(Call.copy(1, 0)).takes(Call.copy(3, 1)).draft("80'");
+        kinds.takes(Call.set(0, 5)).takes(Call.set(1, 5)).takes(Call.set(0, 7)).takes(Call.set(1, 7));
+        Check.due("a copy that is not special", kinds.text(0), "q://k:80?80'");
+        Check.due("a copy that is special", kinds.text(1), "http://u:p@h/a/b?80%27#e");
         Run apart = Run.busy().takes(Call.copy(0, 3)).takes(Call.set(3, 8)).takes(Call.set(0, 7));
         Check.due("a copy that was changed", apart.text(3), "http://u:p@h:8/a/b?c=d#xyz");
         Check.due("what it was copied from", apart.text(0), "http://u:p@h:8/a/b?xyz#e");

@@ -343,6 +343,20 @@ public final class HostEdgesTest {
         pieces("1:2:3:4;5:6:7:8", null);
         pieces("1", null);
         pieces(":", null);
+        pieces(":12", null);
+        pieces(":12:3:4:5:6:7:8", null);
+        pieces(":12:3:4:5:6:7:8:9", null);
+        oneAfterAnother();
+    }
+
+    /** Pieces that were read before, taken or refused, do not count. */
+    private static void oneAfterAnother() {
+        Run run = new Run().read("q://[1:2:3:4:5:6:7:8]", 0, -1).read("q://[1:2:3", 1, -1).read("q://[1:2:3]", 1, -1);
+        run.read("q://[8:7:6:5:4:3:2:1]", 1, -1).read("q://[9::]", 2, -1).read("q://[1:2:3:4:5]", 3, -1);
+        Check.due("the first pieces", run.part(0, Desk.HOST), "[1:2:3:4:5:6:7:8]");
+        Check.due("the next pieces", run.part(1, Desk.HOST), "[8:7:6:5:4:3:2:1]");
+        Check.due("fewer pieces", run.part(2, Desk.HOST), "[9::]");
+        Check.due("too few pieces", run.part(3, Desk.HOST), null);
     }
 
     private static void fewerThanEight() {

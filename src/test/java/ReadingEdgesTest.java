@@ -51,7 +51,10 @@ public final class ReadingEdgesTest {
         usualPort("https", 443);
         usualPort("ws", 80);
         usualPort("wss", 443);
-        String[] others = {"ft", "ftps", "htt", "httpss", "httpx", "w", "wsss", "wt", "file", "gopher", "http.", "xhttp"};
+        String[] others = {
+            "ft", "ftps", "ftq", "xtp", "htt", "httpx", "httq", "xttp", "httpss", "httpt", "xttps", "w", "wt", "xs", "wsss",
+            "wst", "xss", "xhttp", "http.", "file"
+        };
         for (String scheme : others) {
             Edge.reads(scheme + ":h", scheme + ":h");
             Edge.reads(scheme + "://H:80", scheme + "://H:80");
@@ -242,7 +245,8 @@ public final class ReadingEdgesTest {
         for (String scheme : new String[] {"ftp", "http", "https", "ws", "wss"}) {
             Edge.reads(scheme + "://h/a", "", scheme + "://h/a");
             Edge.reads(scheme + "://h/a", "//K:8\\b?'", scheme + "://k:8/b?%27");
-            Edge.reads(scheme + "://h/a", "//k:80", scheme + (scheme.equals("http") || scheme.equals("ws") ? "://k/" : "://k:80/"));
+            boolean usual = scheme.equals("http") || scheme.equals("ws");
+            Edge.reads(scheme + "://h/a", "//k:80", scheme + (usual ? "://k/" : "://k:80/"));
         }
         Edge.reads("q://h/a", "//K:80/b\\c?'", "q://K:80/b\\c?'");
         Edge.reads("q:/a", "b", "q:/b");

@@ -29,6 +29,24 @@ public final class TextEdgesTest {
         lengths("q://h", 5, 1, 0, 0, 1, UrlDesk.NONE, 0, UrlDesk.NONE, UrlDesk.NONE);
         lengths("q://u@h", 7, 1, 1, 0, 1, UrlDesk.NONE, 0, UrlDesk.NONE, UrlDesk.NONE);
         lengths("q://:p@h:0", 10, 1, 0, 1, 1, 1, 0, UrlDesk.NONE, UrlDesk.NONE);
+        nothingIsLeftOver();
+    }
+
+    /** Each part of a longer URL is gone when a shorter one is read in its place, time and again. */
+    private static void nothingIsLeftOver() {
+        Run run = Run.busy();
+        int[] want = {2, 1, 0, 0, UrlDesk.NONE, UrlDesk.NONE, 0, UrlDesk.NONE, UrlDesk.NONE};
+        for (int n = 0; n < 3; n++) {
+            // Once more at every second time: whichever room it is written in, nothing was left there.
+            run.read("http://us:pw@ho:88/a/b?c#d", 1, -1).read("q:", 1, -1);
+            if (n % 2 == 0) {
+                run.then(Call.read(1, -1));
+            }
+            for (int part = 0; part < 9; part++) {
+                run.answers(Call.length(1, part), want[part]);
+            }
+            run.answers(Call.port(1), UrlDesk.NONE).answers(Call.segments(1), UrlDesk.NONE);
+        }
     }
 
     private static void emptyOrNoTail() {
