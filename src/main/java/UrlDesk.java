@@ -35,8 +35,9 @@ public final class UrlDesk {
     private static final String USERINFO_SET = " \"#<>?^{}`/:;=@[\\]|";
 
     private final Text draft;
-    private final Parts parts;
     private final Reader reader;
+    // The reader's own: what it finds is written from here, and so is what set puts together.
+    private final Parts parts;
     private final PairWalk pairWalk;
     private final Url[] slots;
     // What a call makes is written here and changes places with a slot's URL only when it stands.
@@ -44,8 +45,8 @@ public final class UrlDesk {
 
     public UrlDesk() {
         draft = new Text(DRAFT_ROOM);
-        parts = new Parts();
-        reader = new Reader(parts);
+        reader = new Reader();
+        parts = reader.parts;
         pairWalk = new PairWalk();
         slots = new Url[SLOTS];
         for (int i = 0; i < SLOTS; i++) {
@@ -661,7 +662,7 @@ public final class UrlDesk {
         private static final int RELATIVE = 4;
         private static final int BASE_WITH_FRAGMENT = 5;
 
-        private final Parts parts;
+        final Parts parts = new Parts();
         private final Hosts hosts = new Hosts();
         private final Text input = new Text(DRAFT_ROOM);
         private final Text path = new Text(PATH_ROOM);
@@ -670,10 +671,6 @@ public final class UrlDesk {
         private int authorityTo;
         private int hostFrom;
         private int hostTo;
-
-        Reader(Parts parts) {
-            this.parts = parts;
-        }
 
         /** False when it fails; then the parts mean nothing. */
         boolean readDraft(Text draft, Url base) {
